@@ -326,10 +326,7 @@ public final class SagaDesk {
             return accountsTold(row);
         }
         int numbers = numbersTold(row, account, saga, step);
-        if (what < 200) {
-            return Integer.bitCount(numbers);
-        }
-        return numbers == 0 ? NONE : Integer.numberOfTrailingZeros(numbers);
+        return what < 200 ? Integer.bitCount(numbers) : lowest(numbers);
     }
 
     public int film(int sheet, int account, int n) {
@@ -465,6 +462,16 @@ public final class SagaDesk {
 
     private static boolean isBit(int set, int step) {
         return (set >> step & 1) != 0;
+    }
+
+    /** The lowest bit of a set, or NONE. */
+    private static int lowest(int set) {
+        for (int i = 0; i < TOLD_NUMBERS; i++) {
+            if (isBit(set, i)) {
+                return i;
+            }
+        }
+        return NONE;
     }
 
     /** The greatest that divides both; the second is above 0. */
@@ -818,11 +825,15 @@ public final class SagaDesk {
         }
 
         private int readAccount() {
-            if (fault != NONE || token != WORD || place - start != 1 || !isAccount(bytes[start] - 'a')) {
+            if (fault != NONE || token != WORD || place - start != 1) {
                 refuse();
                 return NONE;
             }
             int account = bytes[start] - 'a';
+            if (!isAccount(account)) {
+                refuse();
+                return NONE;
+            }
             advance();
             return account;
         }

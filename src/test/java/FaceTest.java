@@ -52,6 +52,9 @@ final class FaceTest {
         Due.is("open fields", open, 4);
         for (Class<?> inside : SagaDesk.class.getDeclaredClasses()) {
             Due.holds(inside + " is static", Modifier.isStatic(inside.getModifiers()));
+            for (Method method : inside.getDeclaredMethods()) {
+                Due.holds("none inside is named " + method.getName(), !names.contains(method.getName()));
+            }
             Due.holds(inside + " is not open",
                 !Modifier.isPublic(inside.getModifiers()) && !Modifier.isProtected(inside.getModifiers()));
         }

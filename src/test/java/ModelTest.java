@@ -53,8 +53,8 @@ final class ModelTest {
 
     private boolean run(int run) {
         boolean good = true;
-        for (int i = 0; i < 12 && good; i++) {
-            good = i % 4 == 3 ? textCall() : feedAll();
+        for (int i = 0; i < 8 && good; i++) {
+            good = feedAll() && textCall();
         }
         while (good && made < CALLS) {
             good = oneCall(run);
@@ -64,8 +64,8 @@ final class ModelTest {
 
     private boolean oneCall(int run) {
         int way = draw(100);
-        if (way < 12) {
-            return toFeed.isEmpty() && draw(3) > 0 ? textCall() : feedCall();
+        if (way < 5) {
+            return feedCall() && (!toFeed.isEmpty() || textCall());
         }
         if (way < 35) {
             return tickCall(run);
@@ -123,8 +123,21 @@ final class ModelTest {
         return line.toString();
     }
 
+    /** Most are short enough, and have one pivot at most. */
+    private static String lineOfTape() {
+        String text = "";
+        for (int i = 0; i < 20; i++) {
+            text = (draw(5) == 0 ? "!;" : "") + line(0) + (draw(8) == 0 ? ";!" : "");
+            boolean onePivot = text.indexOf('!') == text.lastIndexOf('!');
+            if (text.length() <= 120 && onePivot && draw(20) > 0) {
+                break;
+            }
+        }
+        return text;
+    }
+
     private static String drawText() {
-        String text = (draw(5) == 0 ? "!;" : "") + line(0) + (draw(8) == 0 ? ";!" : "");
+        String text = lineOfTape();
         if (draw(6) == 0) {
             int at = draw(text.length());
             String odd = "{}|;! \n5az" + (char) 0 + (char) 200;
@@ -187,7 +200,7 @@ final class ModelTest {
         switch (draw(6)) {
             case 0:
             case 1:
-                int t = near(0, 3);
+                int t = near(0, Math.max(0, model.count(0) - 1));
                 return same("begin(" + s + ", " + t + ")", desk.begin(s, t), model.begin(s, t));
             case 2:
                 int of = near(0, 1);
@@ -265,9 +278,9 @@ final class ModelTest {
     }
 
     private boolean askCall() {
-        int t = near(0, 5);
+        int t = near(0, Math.max(0, model.count(0) - 1));
         int what = near(0, 5);
-        int i = near(0, 11);
+        int i = near(0, draw(2) == 0 ? 4 : 11);
         switch (draw(5)) {
             case 0:
                 return same("shape(" + t + ", " + what + ")", desk.shape(t, what), model.shape(t, what));

@@ -79,6 +79,14 @@ final class TextsTest {
         fault("mark a", 5);
         fault("mark 5", 5);
         fault("adda 5", 0);
+        fault("ad a 5", 0);
+        fault("odd a 5", 0);
+        fault("lake a 5", 0);
+        fault("love a b 5", 0);
+        fault("gold a 5", 0);
+        fault("swat a b", 0);
+        fault("park", 0);
+        fault("marks", 0);
         fault("Add a 5", 0);
         fault("mark;jump a", 5);
         fault("add a 1000", 6);
