@@ -54,7 +54,7 @@ final class ModelTest {
     private boolean run(int run) {
         boolean good = true;
         for (int i = 0; i < 8 && good; i++) {
-            good = feedAll() && textCall();
+            good = feedAll() && (made >= CALLS || textCall());
         }
         while (good && made < CALLS) {
             good = oneCall(run);
@@ -65,7 +65,7 @@ final class ModelTest {
     private boolean oneCall(int run) {
         int way = draw(100);
         if (way < 5) {
-            return feedCall() && (!toFeed.isEmpty() || textCall());
+            return feedCall() && (!toFeed.isEmpty() || made >= CALLS || textCall());
         }
         if (way < 35) {
             return tickCall(run);
