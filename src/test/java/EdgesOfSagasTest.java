@@ -601,6 +601,11 @@ final class EdgesOfSagasTest {
         y.set(0, 4);
         y.tick();
         Due.is("an UNDOING that FAILED", y.why(0, 0), 2);
+        Due.is("a TRY that FAILED ahead of it", y.why(0, 1), 2);
+        y.breaks(y.count(2));
+        Due.is("it is PARKED", y.told(0, 4), 1);
+        Due.is("THE LOG broke behind an UNDOING", y.why(0, 0), 0);
+        Due.is("and behind a TRY", y.why(0, 1), 0);
     }
 
     // ---- promise 13: set

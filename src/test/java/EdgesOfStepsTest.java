@@ -133,6 +133,7 @@ final class EdgesOfStepsTest {
     private static void swapAndMarkNeverFail() {
         doing("swap a b", 0, 9999, 0, 9999, 0, 0);
         doing("swap a b", 9999, 0, 0, 0, 9999, 0);
+        doing("swap b a", 0, 9999, 0, 9999, 0, 0);
         doing("swap a a", 9999, 0, 0, 9999, 0, 0);
         doing("mark", 0, 9999, 0, 0, 9999, 0);
     }
@@ -207,6 +208,7 @@ final class EdgesOfStepsTest {
     // "SWAP: as DOING; MARK: nothing"
     private static void undoingASwapAndAMarkNeverFails() {
         undoing("swap a b", 0, 9999, 0, 9999, 0);
+        undoing("swap b a", 0, 9999, 0, 9999, 0);
         undoing("swap b b", 0, 9999, 0, 0, 9999);
         undoing("mark", 0, 9999, 0, 0, 9999);
         SagaDesk x = Due.desk("mark;take f 101");

@@ -23,12 +23,15 @@ final class EdgesOfTextsTest {
         threeMayBeOpen();
         thePivotStandsAlone();
         stepsAreTwelve();
+        tokensThatCantStandThere();
         theFirstFaultCounts();
         textsAreSix();
         textIsFullAheadOfAll();
         aFaultEmptiesTheTape();
+        aFaultLeavesNothing();
         shapeIsRefused();
         shapeOfTheLeastAndTheMost();
+        chainAndWide();
         thePivotsSteps();
         clashesAtTheirEdges();
         riskyAtItsEdges();
@@ -307,6 +310,26 @@ final class EdgesOfTextsTest {
         fault("{mark|mark|mark};{mark|mark|mark};{mark|mark|mark};{mark|mark|mark;mark}", 67);
     }
 
+    /** Behind each start, all sorts of tokens but those that can stand there. */
+    private static void tokensThatCantStandThere() {
+        String[] tokens = {"add", "b", "g", "7", ";", "{", "|", "}", "!", "?"};
+        String[] starts = {"", "add ", "add a ", "add a 7 ", "move a ", "move a b ", "swap a b ", "mark ", "mark; ",
+            "! ", "!; ", "{ ", "{ mark ", "{ mark| ", "{ mark|mark ", "{ mark|mark| ", "{ mark|mark|mark ",
+            "{ mark|mark} ", "{ mark; "};
+        String[] standing = {"add { !", "b", "7", ";", "b", "7", ";", ";", "add { !",
+            ";", "add {", "add {", "; |", "add {", "; | }", "add {", "; }",
+            ";", "add {"};
+        for (int i = 0; i < starts.length; i++) {
+            for (String token : tokens) {
+                boolean canStand = (" " + standing[i] + " ").contains(" " + token + " ");
+                SagaDesk x = new SagaDesk();
+                int answer = Due.read(x, starts[i] + token);
+                Due.is("a fault of " + token + " behind " + starts[i], answer == -100 - starts[i].length() ? 1 : 0,
+                    canStand ? 0 : 1);
+            }
+        }
+    }
+
     // "the place of the first byte of the first TOKEN that can't stand there"
     private static void theFirstFaultCounts() {
         fault("mark ?; jump", 5);
@@ -357,6 +380,18 @@ final class EdgesOfTextsTest {
         Due.is("has all its room again", y.feed(5, 'm', 'a', 'r', 'k', ' '), 5);
     }
 
+    private static void aFaultLeavesNothing() {
+        SagaDesk x = new SagaDesk();
+        Due.is("a fault behind a pivot", Due.read(x, "mark;!;{mark|mark|take"), -122);
+        Due.is("text()", Due.read(x, "mark;mark"), 0);
+        Due.is("two steps", x.shape(0, 0), 2);
+        Due.is("no pivot", x.shape(0, 4), NONE);
+        Due.is("a fault behind a pivot", Due.read(x, "!;jump"), -102);
+        Due.is("a pivot is the first one", Due.read(x, "mark;!"), 1);
+        Due.is("what is ahead of it", x.shape(1, 4), 1);
+        Due.is("the texts are two", x.count(0), 2);
+    }
+
     // ---- promise 4: shape
 
     private static void shapeIsRefused() {
@@ -377,6 +412,18 @@ final class EdgesOfTextsTest {
             for (int what = 0; what < 6; what++) {
                 Due.is("shape(" + text + ", " + what + ")", x.shape(text, what), due[text][what]);
             }
+        }
+    }
+
+    // "how many STEPS, at most, stand one AHEAD of another", "any two of which are BESIDE one another"
+    private static void chainAndWide() {
+        SagaDesk x = Due.desk("mark;{mark|mark}", "mark;mark;{mark|mark|mark};mark", "{mark;mark|mark};{mark|mark|mark}",
+            "{mark;{mark|mark}|mark;mark;mark}", "{mark|mark};!;mark", "{{mark;mark|mark}|mark;mark;mark;mark|mark}");
+        int[] chain = {2, 4, 3, 3, 2, 4};
+        int[] wide = {2, 3, 3, 3, 2, 4};
+        for (int text = 0; text < 6; text++) {
+            Due.is("chain of " + text, x.shape(text, 1), chain[text]);
+            Due.is("wide of " + text, x.shape(text, 2), wide[text]);
         }
     }
 
@@ -405,6 +452,10 @@ final class EdgesOfTextsTest {
     private static void riskyAtItsEdges() {
         SagaDesk x = Due.desk("take a 100", "take a 101", "take a 101;mark", "mark;take a 101", "{take a 50|take a 51}",
             "{add a 1|take a 101}");
+        SagaDesk z = Due.desk("mark;mark;mark;take a 101", "mark;{mark|mark};take a 101;mark", "take a 101;!;take a 101");
+        Due.is("all but the last are in it", z.shape(0, 5), 1);
+        Due.is("what could come next is behind a join", z.shape(1, 5), 1);
+        Due.is("what could not come next does not count", z.shape(2, 5), 1);
         int[] due = {0, 1, 1, 1, 2, 1};
         for (int text = 0; text < 6; text++) {
             Due.is("risky of " + text, x.shape(text, 5), due[text]);

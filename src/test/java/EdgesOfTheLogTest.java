@@ -14,6 +14,7 @@ final class EdgesOfTheLogTest {
         replayOfNoneAndOfAll();
         replayAsksForEach();
         replayOfAThirdFailure();
+        replayOfEachText();
         breaksIsRefused();
         breaksAtTheEnds();
         breaksWithinATick();
@@ -166,6 +167,26 @@ final class EdgesOfTheLogTest {
         int[] then = {IDLE, RUNNING, RUNNING, BACK, BACK, UNDONE};
         for (int n = 0; n < then.length; n++) {
             Due.is("without the pivot, by " + n + " lines", y.replay(n, 10), then[n]);
+        }
+    }
+
+    private static void replayOfEachText() {
+        SagaDesk x = Due.desk("add a 1", "add b 2", "add c 3", "add d 4", "add e 5", "add f 6");
+        for (int text = 0; text < 6; text++) {
+            x.begin(text % 3, text);
+            x.tick();
+        }
+        Due.is("three lines of each", x.count(2), 18);
+        for (int text = 0; text < 6; text++) {
+            Due.is("RUNNING by its first", x.replay(3 * text + 1, 10 + text % 3), RUNNING);
+            Due.is("a balance ahead", x.replay(3 * text + 1, text), 100);
+            Due.is("a balance behind", x.replay(3 * text + 2, text), 101 + text);
+            Due.is("DONE by its last", x.replay(3 * text + 3, 10 + text % 3), DONE);
+        }
+        for (int text = 5; text >= 0; text--) {
+            x.breaks(3 * text + 1);
+            Due.is("the text of the saga that it left", x.told(text % 3, 1), text);
+            Due.is("its step is to come", x.told(text % 3, 5), 1);
         }
     }
 

@@ -10,6 +10,7 @@ final class EdgesOfThoughtTest {
         runIsRefused();
         runOfNoTick();
         runGoesTickByTick();
+        whatIsThoughtComesTrue();
         runGoesOnWherePlansAre();
         runGoesOnWhereTheLogIsFull();
         endsIsRefused();
@@ -84,6 +85,41 @@ final class EdgesOfThoughtTest {
         }
         Due.is("nothing truly came", x.count(5), 0);
         Due.is("nor a line", x.count(2), 1);
+    }
+
+    private static int[] views() {
+        int[] views = new int[20];
+        for (int i = 0; i < 20; i++) {
+            views[i] = i < 8 ? i : 10 * ((i - 8) / 3 + 1) + (i - 8) % 3;
+        }
+        return views;
+    }
+
+    /** What run() answers ahead of each tick is what is behind it, and behind the next. */
+    private static void whatIsThoughtComesTrue() {
+        for (int start = 0; start < 8; start++) {
+            SagaDesk x = begun("{add a 9;hold b 8|swap a c};{take c 7|mark};move d e 6;take f 101",
+                "{hold a 5|mark;add e 4};!;{take d 101|move b f 3}", "swap d c;{mark|add c 2};take e 300");
+            x.plan(0, 1, 1, 1);
+            x.plan(0, 3, 1, 1);
+            x.plan(1, 4, 0, 2);
+            Due.ticks(x, start);
+            int[] views = views();
+            int[][] due = new int[5][20];
+            for (int n = 0; n < 5; n++) {
+                for (int i = 0; i < 20; i++) {
+                    due[n][i] = x.run(n, views[i]);
+                }
+            }
+            for (int n = 0; n < 5; n++) {
+                for (int i = 0; i < 20; i++) {
+                    Due.is("from " + start + " on, behind " + n + ": " + views[i], x.run(0, views[i]), due[n][i]);
+                }
+                Due.is("truly, too", x.told(0, 3), due[n][14]);
+                Due.is("truly, too", x.count(12), due[n][2]);
+                x.tick();
+            }
+        }
     }
 
     // "(with PLANS as they are)"
@@ -225,6 +261,12 @@ final class EdgesOfThoughtTest {
         Due.is("its plans are drawn", x.drawn(1, calm), DONE);
         Due.is("instead of what they are", x.drawn(0, calm), DONE);
         Due.is("that stays", x.ends(0, 1), STUCK);
+        // A plan of 1 fails by one tick: by two, the other saga would have come in between.
+        SagaDesk z = begun("!;take a 60", "mark;take a 60");
+        for (int seed = 0; seed < 20; seed++) {
+            Due.is("not of 2, by " + seed, z.drawn(0, seed), DONE);
+            Due.is("the other finds too little, by " + seed, z.drawn(1, seed), UNDONE);
+        }
         SagaDesk y = begun("take a 60", "mark;take a 60");
         y.plan(0, 0, 0, 1);
         Due.is("by its plan the other leaves it enough", y.ends(1, 1), DONE);

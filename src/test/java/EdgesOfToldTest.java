@@ -84,6 +84,8 @@ final class EdgesOfToldTest {
         Due.is("saga", x.tells(0, 0, 3, 100), BAD);
         Due.is("what", x.tells(0, 0, 1, 112), BAD);
         Due.is("what", x.tells(0, 0, 1, 99), BAD);
+        Due.is("what", x.tells(0, 0, 1, 199), BAD);
+        Due.is("what", x.tells(0, 0, 1, 212), BAD);
         Due.is("all good, but IDLE", x.tells(0, 0, 1, 100), STATE);
         Due.is("BAD ahead of -11", x.tells(0, 0, 0, 2), BAD);
         Due.is("BAD ahead of -11", x.tells(0, 6, 0, 0), BAD);
