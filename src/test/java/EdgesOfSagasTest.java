@@ -595,6 +595,12 @@ final class EdgesOfSagasTest {
         Due.is("LOW", x.why(0, 0), 2);
         x.begin(0, 0);
         Due.is("begun anew", x.why(0, 0), 0);
+        SagaDesk z = begun("!;take a 101;mark");
+        z.tick();
+        z.set(0, 101);
+        z.tick();
+        Due.is("it is DONE", z.told(0, 2), 1);
+        Due.is("it FAILED since the saga was begun", z.why(0, 0), 2);
         SagaDesk y = begun("add a 5;take b 101");
         Due.ticks(y, 2);
         Due.is("a step that did not fail", y.why(0, 0), 0);

@@ -77,6 +77,10 @@ final class EdgesOfStepsTest {
         Due.is(what + ": a", x.count(10), newA);
         Due.is(what + ": b", x.count(11), newB);
         Due.is(what + ": held", x.count(4), held);
+        Due.is(what + ": marks", x.count(5), step.equals("mark") ? 1 : 0);
+        for (int account = 2; account < 6; account++) {
+            Due.is(what + ": another balance", x.count(10 + account), 100);
+        }
     }
 
     // "ADD: its ACCOUNT has NUMBER more", "It FAILS (and changes nothing), if a BALANCE would be .. above 9999"

@@ -456,6 +456,10 @@ final class EdgesOfTextsTest {
         Due.is("all but the last are in it", z.shape(0, 5), 1);
         Due.is("what could come next is behind a join", z.shape(1, 5), 1);
         Due.is("what could not come next does not count", z.shape(2, 5), 1);
+        Due.is("no MARK truly came", z.count(5), 0);
+        SagaDesk h = Due.desk("{hold a 60|hold a 60};mark");
+        Due.is("either of two", h.shape(0, 5), 2);
+        Due.is("nothing is truly HELD", h.count(4), 0);
         int[] due = {0, 1, 1, 1, 2, 1};
         for (int text = 0; text < 6; text++) {
             Due.is("risky of " + text, x.shape(text, 5), due[text]);
@@ -517,6 +521,13 @@ final class EdgesOfTextsTest {
             for (int what = 0; what < 6; what++) {
                 Due.is("step(" + text + ", 0, " + what + ")", x.step(text, 0, what), due[text][what]);
             }
+        }
+        SagaDesk y = Due.desk("mark;{mark;mark|mark;{mark;mark|mark};mark};mark");
+        int[] ahead = {0, 1, 3, 1, 9, 25, 9, 121, 255};
+        int[] beside = {0, 248, 248, 6, 70, 70, 54, 6, 0};
+        for (int i = 0; i < 9; i++) {
+            Due.is("ahead of " + i + ", in the lines around, too", y.step(0, i, 4), ahead[i]);
+            Due.is("beside " + i, y.step(0, i, 5), beside[i]);
         }
         Due.is("all are ahead of the last", x.step(3, 11, 4), 2047);
         Due.is("none is beside it", x.step(3, 11, 5), 0);

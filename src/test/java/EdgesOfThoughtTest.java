@@ -15,6 +15,7 @@ final class EdgesOfThoughtTest {
         runGoesOnWhereTheLogIsFull();
         endsIsRefused();
         endsAtItsEdges();
+        endsCountsFailuresOn();
         endsOfOneThatHasEnded();
         theLongestSaga();
         drawnIsRefused();
@@ -180,6 +181,25 @@ final class EdgesOfThoughtTest {
         Due.is("UNDONE", y.ends(0, 1), UNDONE);
         Due.is("all are parked", y.ends(0, 2), 3);
         Due.is("truly none is", y.told(0, 4), 0);
+    }
+
+    // "the third, or a later, TRY of that STEP that FAILED": those that truly came and those in thought together
+    private static void endsCountsFailuresOn() {
+        String[] steps = {"take a 101", "add a 1", "mark"};
+        for (int reason = 0; reason < 3; reason++) {
+            SagaDesk x = Due.desk("!;" + steps[reason]);
+            x.set(0, reason == 1 ? 9999 : 100);
+            x.begin(0, 0);
+            x.plan(0, 0, 0, reason == 2 ? 9 : 0);
+            for (int failures = 0; failures < 3; failures++) {
+                Due.is("ends behind " + failures, x.ends(0, 0), 3 - failures);
+                Due.is("and again", x.ends(0, 0), 3 - failures);
+                Due.is("STUCK", x.ends(0, 1), STUCK);
+                Due.is("not yet", x.run(2 - failures, 10), RUNNING);
+                x.tick();
+            }
+            Due.is("truly, too", x.told(0, 0), STUCK);
+        }
     }
 
     // "Behind how many TICKS (0 .. 60)"

@@ -246,6 +246,15 @@ final class EdgesOfToldTest {
         Due.is("of the other", x.tells(0, 0, 2, 200), 3);
         Due.is("the text is as it was", x.step(0, 0, 3), 5);
         Due.is("truly its number is", x.run(1, 0), 110);
+        SagaDesk y = begun("add a 5", "add b 6", "add c 7");
+        for (int s = 0; s < 3; s++) {
+            for (int a = 0; a < 3; a++) {
+                fill(y, 0, 110);
+                Due.is("account " + a + " by saga " + s, y.tells(0, a, s, 200), a == s ? 10 : NONE);
+                fill(y, 0, 105 + a);
+                Due.is("account " + a + " by saga " + s, y.tells(0, a, s, 100), a == s ? 1 : 20);
+            }
+        }
     }
 
     // "in TRIES to come": what is DONE was done by what it was
